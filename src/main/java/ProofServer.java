@@ -1,4 +1,6 @@
+import java.util.ArrayList;
 import java.util.Arrays;
+import java.util.List;
 
 /**
  * A proof document server: a client's framed messages are read, its documents are kept, parted into
@@ -75,8 +77,8 @@ public final class ProofServer {
     private static final int NAME_SHIFT = 15;
 
     // The words in the order of their numbers below: those up to lemma stand outside of proofs.
-    private static final String WORDS = "forall exists False function predicate axiom lemma qed abort "
-            + "intro exact apply split left right cases absurd give use same rewrite have";
+    private static final String WORDS = 
+            "forall exists False function predicate axiom lemma qed abort intro exact apply split left right cases absurd give use same rewrite have";
     private static final int WORD_FORALL = 0;
     private static final int WORD_EXISTS = 1;
     private static final int WORD_FALSE = 2;
@@ -100,26 +102,25 @@ public final class ProofServer {
     private static final int WORD_REWRITE = 20;
     private static final int WORD_HAVE = 21;
 
-    private final byte[] tape = new byte[TAPE_MOST];
-    private int onTape;
+    private final Bytes tape = new Bytes(TAPE_MOST);
     private final Frames frames = new Frames();
     private final Json json = new Json();
     private final Bytes output = new Bytes(OUTPUT_MOST);
     private final Bytes body = new Bytes(1024);
     private final Kernel kernel = new Kernel();
     private final Printer printer = new Printer(kernel.names);
-    private final Document[] open = new Document[OPEN_MOST];
-    private int openCount;
-    private final Request[] waiting = new Request[WAITING_MOST];
-    private int waitingCount;
-    private final State[] cache = new State[CACHE_MOST];
-    private int cached;
+    private final List<Document> open = new ArrayList<>();
+    private final List<Request> waiting = new ArrayList<>();
+    // What came of the last checks, the latest one last.
+    private final List<State> cache = new ArrayList<>();
     private final Document[] hands = new Document[WORKERS];
     private int phase = NEW;
     private int steps;
     private int reused;
     private int lost;
-    private Document edited = new Document();
+    // Where a text is made before it takes a document's place.
+    private Document spare = new Document();
+    // The latest batch; null before the first one.
     private Document latest;
     private final Bytes shown = new Bytes(256);
     private int shownOf = -2;
@@ -128,7 +129,7 @@ public final class ProofServer {
     }
 
     public int feed(int a, int b, int c, int d, int e) {
-        if (onTape > TAPE_MOST - FED_AT_ONCE) {
+        if (tape.count > TAPE_MOST - FED_AT_ONCE) {
             return -1;
         }
         lay(a);
@@ -136,15 +137,15 @@ public final class ProofServer {
         lay(c);
         lay(d);
         lay(e);
-        return onTape;
+        return tape.count;
     }
 
     public int give(int n) {
-        if (n < 0 || n > onTape) {
+        if (n < 0 || n > tape.count) {
             return -1;
         }
-        for (int i = 0; i < n && i < tape.length && !frames.broken; i++) {
-            if (frames.accept(tape[i] & 255)) {
+        for (int i = 0; i < n && i < tape.row.length && !frames.broken; i++) {
+            if (frames.accept(tape.row[i] & 255)) {
                 Request asked = understood();
                 if (asked != null && asked.id != null) {
                     request(asked);
@@ -153,7 +154,7 @@ public final class ProofServer {
                 }
             }
         }
-        onTape = 0;
+        tape.count = 0;
         return output.count;
     }
 
@@ -186,13 +187,13 @@ public final class ProofServer {
             case 0: return frames.broken ? 1 : 0;
             case 1: return frames.broken ? 0 : frames.kept;
             case 2: return frames.messages;
-            case 3: return openCount;
-            case 4: return waitingCount;
-            case 5: return cached;
+            case 3: return open.size();
+            case 4: return waiting.size();
+            case 5: return cache.size();
             case 6: return steps;
             case 7: return reused;
             case 8: return lost;
-            case 9: return onTape;
+            case 9: return tape.count;
             case 10: return output.count;
             case 11: return numberOf(hands[0]);
             case 12: return numberOf(hands[1]);
@@ -236,22 +237,22 @@ public final class ProofServer {
     }
 
     public int batch(int n) {
-        if (n < 0 || n > onTape) {
+        if (n < 0 || n > tape.count) {
             return -1;
         }
-        onTape = 0;
-        Document fresh = new Document();
-        if (!fresh.decode(tape, n)) {
+        tape.count = 0;
+        Document fresh = spare;
+        if (!fresh.decode(tape.row, n)) {
             return -2;
         }
+        spare = latest == null ? new Document() : latest;
+        latest = fresh;
+        shownOf = -2;
         fresh.part(kernel.syntax);
         for (int k = 0; k < fresh.sentences; k++) {
             int[] units = Arrays.copyOfRange(fresh.text, fresh.starts[k], fresh.ends[k]);
             fresh.behind[k] = kernel.check(fresh.stateBehind(k, kernel.start), units, fresh.early[k]);
         }
-        fresh.checked = fresh.sentences;
-        latest = fresh;
-        shownOf = -2;
         return fresh.sentences;
     }
 
@@ -285,19 +286,18 @@ public final class ProofServer {
     }
 
     private void lay(int four) {
-        for (int shift = 24; shift >= 0 && onTape < tape.length; shift -= 8) {
-            tape[onTape] = (byte) (four >> shift);
-            onTape++;
+        for (int shift = 24; shift >= 0; shift -= 8) {
+            tape.put(four >> shift);
         }
     }
 
     private Document openAt(int d) {
-        return d < 0 || d >= openCount || d >= open.length ? null : open[d];
+        return d < 0 || d >= open.size() ? null : open.get(d);
     }
 
     private int numberOf(Document wanted) {
-        for (int d = 0; d < openCount; d++) {
-            if (wanted != null && open[d] == wanted) {
+        for (int d = 0; d < open.size(); d++) {
+            if (open.get(d) == wanted) {
                 return d;
             }
         }
@@ -373,9 +373,9 @@ public final class ProofServer {
     /** The open document that the message is about; null when it tells none. */
     private Document addressed() {
         int uri = json.member(json.member(json.member(0, "params"), "textDocument"), "uri");
-        for (int d = 0; d < openCount; d++) {
-            if (open[d] != null && json.isUnits(uri, open[d].uri)) {
-                return open[d];
+        for (int d = 0; d < open.size(); d++) {
+            if (json.isUnits(uri, open.get(d).uri)) {
+                return open.get(d);
             }
         }
         return null;
@@ -389,7 +389,7 @@ public final class ProofServer {
         boolean isTold = json.kindOf(uri) == Json.STRING && json.sizeOf(uri) >= 1 && json.sizeOf(uri) <= URI_MOST
                 && json.kindOf(version) == Json.INT
                 && json.kindOf(text) == Json.STRING && json.sizeOf(text) <= TEXT_MOST;
-        if (!isTold || addressed() != null || openCount >= OPEN_MOST) {
+        if (!isTold || addressed() != null || open.size() >= OPEN_MOST) {
             return;
         }
         Document opened = new Document();
@@ -397,8 +397,7 @@ public final class ProofServer {
         opened.version = json.valueOf(version);
         opened.replace(0, 0, json, text);
         opened.part(kernel.syntax);
-        open[openCount] = opened;
-        openCount++;
+        open.add(opened);
         if (opened.checked == opened.sentences) {
             publish(opened, true);
         }
@@ -413,7 +412,7 @@ public final class ProofServer {
                 || json.kindOf(changes) != Json.LIST || json.sizeOf(changes) < 1 || json.sizeOf(changes) > CHANGES_MOST) {
             return;
         }
-        edited.copyText(changed);
+        spare.copyText(changed);
         int change = json.firstOf(changes);
         for (int i = 0; i < json.sizeOf(changes); i++) {
             if (!makeChange(change)) {
@@ -422,7 +421,7 @@ public final class ProofServer {
             change = json.nextOf(change);
         }
         dismiss(changed);
-        changed.copyText(edited);
+        changed.copyText(spare);
         changed.version = json.valueOf(version);
         changed.part(kernel.syntax);
         if (!changed.keepChecked()) {
@@ -441,11 +440,11 @@ public final class ProofServer {
             return false;
         }
         if (range < 0) {
-            return edited.replace(0, edited.length, json, text);
+            return spare.replace(0, spare.length, json, text);
         }
-        int start = placeTold(json.member(range, "start"), edited);
-        int end = placeTold(json.member(range, "end"), edited);
-        return start >= 0 && end >= start && edited.replace(start, end, json, text);
+        int start = placeTold(json.member(range, "start"), spare);
+        int end = placeTold(json.member(range, "end"), spare);
+        return start >= 0 && end >= start && spare.replace(start, end, json, text);
     }
 
     /** The place in the document that a line and a character tell; -1 when they tell none. */
@@ -466,21 +465,15 @@ public final class ProofServer {
         }
         release(closed);
         dismiss(closed);
-        openCount--;
-        for (int d = number; d < openCount; d++) {
-            open[d] = open[d + 1];
-        }
-        open[openCount] = null;
+        open.remove(number);
         publish(closed, false);
     }
 
     private void cancelRequest() {
         Request named = new Request(json, json.member(json.member(0, "params"), "id"));
-        for (int i = 0; i < waitingCount; i++) {
-            if (waiting[i] != null && waiting[i].hasIdOf(named)) {
-                Request cancelled = waiting[i];
-                stopWaiting(i);
-                refuse(cancelled, CANCELLED);
+        for (int i = 0; i < waiting.size(); i++) {
+            if (waiting.get(i).hasIdOf(named)) {
+                refuse(waiting.remove(i), CANCELLED);
                 return;
             }
         }
@@ -513,51 +506,37 @@ public final class ProofServer {
     }
 
     private void answerOrWait(Request asked, boolean isAimed) {
-        if (!isAimed || asked.about == null) {
+        if (!isAimed) {
             refuse(asked, BAD_PARAMS);
-        } else if (asked.about.checked >= asked.needed) {
+        } else if (asked.isReady()) {
             reply(asked);
-        } else if (waitingCount < WAITING_MOST) {
-            waiting[waitingCount] = asked;
-            waitingCount++;
+        } else if (waiting.size() < WAITING_MOST) {
+            waiting.add(asked);
         } else {
             refuse(asked, NO_REQUEST);
         }
     }
 
-    private void stopWaiting(int number) {
-        if (number < 0 || number >= waitingCount) {
-            return;
-        }
-        waitingCount--;
-        for (int i = number; i < waitingCount; i++) {
-            waiting[i] = waiting[i + 1];
-        }
-        waiting[waitingCount] = null;
-    }
-
     /** Answers those that wait for a document that has changed or is closed. */
     private void dismiss(Document about) {
-        for (int i = 0; i < waitingCount; ) {
-            Request asked = waiting[i];
-            if (asked == null || asked.about != about) {
-                i++;
-                continue;
+        int passed = 0;
+        for (int turn = 0; turn < WAITING_MOST && passed < waiting.size(); turn++) {
+            if (waiting.get(passed).about == about) {
+                refuse(waiting.remove(passed), MODIFIED);
+            } else {
+                passed++;
             }
-            stopWaiting(i);
-            refuse(asked, MODIFIED);
         }
     }
 
     private void answerReady() {
-        for (int i = 0; i < waitingCount; ) {
-            Request asked = waiting[i];
-            if (asked == null || asked.about == null || asked.about.checked < asked.needed) {
-                i++;
-                continue;
+        int passed = 0;
+        for (int turn = 0; turn < WAITING_MOST && passed < waiting.size(); turn++) {
+            if (waiting.get(passed).isReady()) {
+                reply(waiting.remove(passed));
+            } else {
+                passed++;
             }
-            stopWaiting(i);
-            reply(asked);
         }
     }
 
@@ -693,9 +672,9 @@ public final class ProofServer {
     /** The document of which a worker takes the next sentence; null when there is none. */
     private Document nextToCheck() {
         Document first = null;
-        for (int d = 0; d < openCount; d++) {
-            Document opened = open[d];
-            if (opened != null && opened.checking == null && opened.checked < opened.sentences) {
+        for (int d = 0; d < open.size(); d++) {
+            Document opened = open.get(d);
+            if (opened.checking == null && opened.checked < opened.sentences) {
                 if (isAskedAbout(opened)) {
                     return opened;
                 }
@@ -708,8 +687,8 @@ public final class ProofServer {
     }
 
     private boolean isAskedAbout(Document opened) {
-        for (int i = 0; i < waitingCount; i++) {
-            if (waiting[i] != null && waiting[i].about == opened) {
+        for (int i = 0; i < waiting.size(); i++) {
+            if (waiting.get(i).about == opened) {
                 return true;
             }
         }
@@ -726,10 +705,17 @@ public final class ProofServer {
         }
         Document held = hands[w];
         held.left--;
-        if (held.left > 0) {
+        if (held.left > 0 || held.checking == null) {
             return;
         }
-        finish(held);
+        State behind = held.found;
+        if (behind != null) {
+            reused++;
+        } else {
+            behind = kernel.check(held.stateBehind(held.checked, kernel.start), held.checking, held.earlyFault());
+        }
+        held.addChecked(behind);
+        remember(behind);
         release(held);
         if (held.checked == held.sentences) {
             publish(held, true);
@@ -745,9 +731,9 @@ public final class ProofServer {
         }
         State ahead = held.stateBehind(k, kernel.start);
         held.found = null;
-        for (int i = 0; i < cached && held.found == null; i++) {
-            State kept = cache[i];
-            if (kept != null && held.isSentence(k, kept.units) && State.isSameRow(kept.ahead, ahead)) {
+        for (int i = 0; i < cache.size() && held.found == null; i++) {
+            State kept = cache.get(i);
+            if (held.isSentence(k, kept.units) && State.isSameRow(kept.ahead, ahead)) {
                 held.found = kept;
             }
         }
@@ -760,36 +746,17 @@ public final class ProofServer {
         }
     }
 
-    private void finish(Document held) {
-        int k = held.checked;
-        if (k < 0 || k >= held.sentences || held.checking == null) {
-            return;
-        }
-        State behind = held.found;
-        if (behind != null) {
-            reused++;
-        } else {
-            behind = kernel.check(held.stateBehind(k, kernel.start), held.checking, held.early[k]);
-        }
-        held.behind[k] = behind;
-        held.checked++;
-        remember(behind);
-    }
-
     private void remember(State behind) {
-        int from = 0;
-        for (; from < cached && !State.isSameRow(cache[from], behind); ) {
-            from++;
+        int like = 0;
+        for (; like < cache.size() && !State.isSameRow(cache.get(like), behind); ) {
+            like++;
         }
-        if (from == cached && cached < CACHE_MOST) {
-            cached++;
-        } else if (from == cached) {
-            from = 0;
+        if (like < cache.size()) {
+            cache.remove(like);
+        } else if (cache.size() >= CACHE_MOST) {
+            cache.remove(0);
         }
-        for (int i = from; i < cached - 1; i++) {
-            cache[i] = cache[i + 1];
-        }
-        cache[cached - 1] = behind;
+        cache.add(behind);
     }
 
     /** The document's check, if one goes on, is no more. */
@@ -1057,6 +1024,8 @@ public final class ProofServer {
         static final int STRING = 3;
         static final int INT = 4;
         static final int OTHER = 5;
+        private static final long INT_LEAST = -2147483648L;
+        private static final long INT_MOST = 2147483647L;
         // A value takes two bytes at least, with what parts it from the next one.
         private static final int VALUES_MOST = BODY_MOST / 2 + 2;
 
@@ -1294,11 +1263,11 @@ public final class ProofServer {
                 }
             }
             long value = 0;
-            for (int i = from; i < from + whole && value <= Integer.MAX_VALUE + 1L; i++) {
+            for (int i = from; i < from + whole && value <= INT_MOST + 1; i++) {
                 value = value * 10 + bytes[i] - '0';
             }
             value = isNegative ? -value : value;
-            isInt = isInt && value >= Integer.MIN_VALUE && value <= Integer.MAX_VALUE;
+            isInt = isInt && value >= INT_LEAST && value <= INT_MOST;
             return isInt ? make(INT, (int) value, 0) : make(OTHER, 0, 0);
         }
 
@@ -1326,7 +1295,8 @@ public final class ProofServer {
                     return false;
                 }
                 if (c == '\\') {
-                    if (!isEscape()) {
+                    boolean isFine = isWord("\\u") ? isUnitEscape() : isEscape();
+                    if (!isFine) {
                         return false;
                     }
                 } else {
@@ -1364,7 +1334,6 @@ public final class ProofServer {
                 case 'n': addUnit(10); return true;
                 case 'r': addUnit(13); return true;
                 case 't': addUnit(9); return true;
-                case 'u': return isUnitEscape();
                 default: return false;
             }
         }
@@ -1389,10 +1358,10 @@ public final class ProofServer {
         private int fourDigits() {
             int u = 0;
             for (int i = 0; i < 4; i++) {
-                int b = peek();
+                int b = at < end ? bytes[at] : -1;
                 int small = b >= 'A' && b <= 'F' ? b + 32 : b;
                 boolean isLetter = small >= 'a' && small <= 'f';
-                if (!isLetter && !isDigit(b)) {
+                if (!isLetter && (b < '0' || b > '9')) {
                     return -1;
                 }
                 u = u << 4 | (isLetter ? small - 'a' + 10 : b - '0');
@@ -1421,6 +1390,10 @@ public final class ProofServer {
                 int[] units = json.unitsOf(value);
                 id.quoted(units, 0, units.length);
             }
+        }
+
+        boolean isReady() {
+            return about == null || about.checked >= needed;
         }
 
         boolean hasIdOf(Request other) {
@@ -1510,6 +1483,18 @@ public final class ProofServer {
                 count++;
             }
             return count;
+        }
+
+        /** Fault 1 or 2 of the sentence that is checked next; 0 without one. */
+        int earlyFault() {
+            return checked < sentences ? early[checked] : 0;
+        }
+
+        void addChecked(State next) {
+            if (checked < sentences) {
+                behind[checked] = next;
+                checked++;
+            }
         }
 
         boolean isSentence(int k, int[] units) {
@@ -1768,7 +1753,7 @@ public final class ProofServer {
             if (u >= 'A' && u <= 'Z') {
                 return u - 'A' + 26;
             }
-            if (isDigit(u)) {
+            if (u >= '0' && u <= '9') {
                 return u - '0' + 52;
             }
             return u == '_' ? 62 : u == '\'' ? 63 : -1;
@@ -1870,32 +1855,34 @@ public final class ProofServer {
             toldCount = 0;
             nodeCount = 0;
             terms = 0;
-            if (tokens < 2 || kinds[0] != NAME) {
-                return false;
-            }
-            word = values[0];
-            return hasParts() && at == tokens - 1 && peek() == '.';
-        }
-
-        private boolean hasParts() {
+            word = tokens > 0 && kinds[0] == NAME ? values[0] : -1;
+            boolean isRead;
             switch (word) {
                 case WORD_FUNCTION: case WORD_PREDICATE:
-                    return isName() && isArity();
+                    isRead = isName() && isArity();
+                    break;
                 case WORD_AXIOM: case WORD_LEMMA: case WORD_HAVE:
-                    return isName() && isSign(':') && isChain(0, 0);
+                    isRead = isName() && isSign(':') && isChain(0, 0);
+                    break;
                 case WORD_QED: case WORD_ABORT: case WORD_SPLIT: case WORD_LEFT: case WORD_RIGHT: case WORD_SAME:
-                    return true;
+                    isRead = true;
+                    break;
                 case WORD_INTRO: case WORD_EXACT: case WORD_APPLY: case WORD_ABSURD: case WORD_REWRITE:
-                    return isName();
+                    isRead = isName();
+                    break;
                 case WORD_CASES:
-                    return isName() && isName() && isName();
+                    isRead = isName() && isName() && isName();
+                    break;
                 case WORD_GIVE:
-                    return isTerm(FUNCTION, 0);
+                    isRead = isTerm(FUNCTION, 0);
+                    break;
                 case WORD_USE:
-                    return isName() && isTerm(FUNCTION, 0) && isName();
+                    isRead = isName() && isTerm(FUNCTION, 0) && isName();
+                    break;
                 default:
-                    return false;
+                    isRead = false;
             }
+            return isRead && at == tokens - 1 && peek() == '.';
         }
 
         private int peek() {
@@ -1907,7 +1894,7 @@ public final class ProofServer {
         }
 
         private boolean isSign(int sign) {
-            boolean isThere = peek() == sign;
+            boolean isThere = at < tokens && at < TEXT_MOST && kinds[at] == sign;
             at++;
             return isThere;
         }
@@ -1930,7 +1917,12 @@ public final class ProofServer {
         }
 
         private boolean addNode(int node) {
-            return insertNode(nodeCount, node);
+            if (nodeCount >= NODES_ROOM) {
+                return false;
+            }
+            nodes[nodeCount] = node;
+            nodeCount++;
+            return true;
         }
 
         private boolean insertNode(int place, int node) {
@@ -1947,12 +1939,10 @@ public final class ProofServer {
 
         /** Reads what -> (strength 0), + (1) or * (2) join, a chain of them in one loop; its sign comes ahead of its left side. */
         private boolean isChain(int strength, int depth) {
-            if (strength >= CHAIN_SIGNS.length) {
-                return isOne(depth);
-            }
-            for (int i = 0; i < TEXT_MOST; i++) {
+            for (int i = 0; i < TEXT_MOST && strength < CHAIN_SIGNS.length; i++) {
                 int start = nodeCount;
-                if (!isChain(strength + 1, depth)) {
+                boolean isSide = strength == CHAIN_SIGNS.length - 1 ? isOne(depth) : isChain(strength + 1, depth);
+                if (!isSide) {
                     return false;
                 }
                 if (peek() != CHAIN_SIGNS[strength]) {
@@ -1988,10 +1978,6 @@ public final class ProofServer {
                 at++;
                 return addNode(FALSE);
             }
-            return isAtom(depth);
-        }
-
-        private boolean isAtom(int depth) {
             int start = nodeCount;
             if (!isTerm(PREDICATE, depth)) {
                 return false;
@@ -2380,7 +2366,8 @@ public final class ProofServer {
                 case WORD_EXACT:
                     return rule != null && areSame(rule, shown) ? 0 : NO_MATCH;
                 case WORD_APPLY:
-                    return rule != null ? apply(goal, rule) : NO_MATCH;
+                    int premises = rule == null ? -1 : premisesFor(rule, shown);
+                    return premises < 0 ? NO_MATCH : addPremises(goal, rule, premises);
                 case WORD_SPLIT:
                     return side(goal, kind == AND, 1, middle) + side(goal, kind == AND, middle, shown.length) > 0 ? NO_MATCH : 0;
                 case WORD_LEFT:
@@ -2411,36 +2398,43 @@ public final class ProofServer {
             if (kind == IMPLIES) {
                 return add(goal.withHypothesis(name, part(shown, 1, middle), part(shown, middle, shown.length)));
             }
-            return kind == FORALL ? add(goal.withVariable(name, openedBy(shown, name))) : NO_MATCH;
+            return kind == FORALL ? add(goal.withVariable(name, opened(shown, variable(name), 1))) : NO_MATCH;
         }
 
         private int side(Goal goal, boolean hasSides, int from, int to) {
             return hasSides ? add(goal.withFormula(part(goal.formula, from, to))) : NO_MATCH;
         }
 
-        private int apply(Goal goal, int[] rule) {
+        private static int leadingBound(int[] rule) {
             int bound = 0;
             for (; bound < rule.length && bound < NESTING_MOST && (rule[bound] & KIND) == FORALL; ) {
                 bound++;
             }
+            return bound;
+        }
+
+        /** The least number of left sides of a rule behind which it is the formula; -1 when there is none. */
+        private int premisesFor(int[] rule, int[] formula) {
+            int bound = leadingBound(rule);
             int at = bound;
             for (int count = 0; count < NODES_MOST && at < rule.length; count++) {
-                if (matches(rule, at, bound, goal.formula)) {
-                    return premises(goal, rule, bound, count);
+                if (matches(rule, at, bound, formula)) {
+                    return count;
                 }
                 if ((rule[at] & KIND) != IMPLIES) {
-                    return NO_MATCH;
+                    return -1;
                 }
                 at = endOf(rule, at + 1, rule.length);
             }
-            return NO_MATCH;
+            return -1;
         }
 
-        /** The goals of the first sides of a rule, with the terms that were told. */
-        private int premises(Goal goal, int[] rule, int bound, int count) {
+        /** The goals of the first left sides of a rule, with the terms that were told. */
+        private int addPremises(Goal goal, int[] rule, int count) {
             if (count > GOALS_MOST) {
                 return TOO_LARGE;
             }
+            int bound = leadingBound(rule);
             int at = bound;
             for (int i = 0; i < count; i++) {
                 int end = endOf(rule, at + 1, rule.length);
@@ -2473,7 +2467,7 @@ public final class ProofServer {
             if (kind != EXISTS) {
                 return NO_MATCH;
             }
-            return add(rest.withVariable(first, goal.formula).withHypothesis(second, openedBy(known, first), goal.formula));
+            return add(rest.withVariable(first, goal.formula).withHypothesis(second, opened(known, variable(first), 1), goal.formula));
         }
 
         private int use(Goal goal, int[] rule) {
@@ -2617,18 +2611,18 @@ public final class ProofServer {
             return areAllTold && at == formula.length;
         }
 
+        /** Whether the formula's nodes from .. to - 1 can come for the bound name of a level. */
         private boolean tells(int level, int from, int to) {
-            if (termSize[level] > 0) {
-                return termSize[level] == to - from && standsAt(source, from, source, termFrom[level], to - from);
+            boolean isNew = termSize[level] == 0;
+            boolean fits = isNew || termSize[level] == to - from;
+            for (int i = from; i < to && fits; i++) {
+                fits = isNew ? (source[i] & KIND) != BOUND : source[i] == source[termFrom[level] + i - from];
             }
-            for (int i = from; i < to; i++) {
-                if ((source[i] & KIND) == BOUND) {
-                    return false;
-                }
+            if (fits && isNew) {
+                termFrom[level] = from;
+                termSize[level] = to - from;
             }
-            termFrom[level] = from;
-            termSize[level] = to - from;
-            return true;
+            return fits;
         }
 
         /** What a quantifier binds with a term for its name; null when that is too large. */
@@ -2639,9 +2633,9 @@ public final class ProofServer {
             return instance(quantified, 1, quantified.length, 1);
         }
 
-        private int[] openedBy(int[] quantified, int variable) {
-            single[0] = VARIABLE | variable << NAME_SHIFT;
-            return opened(quantified, single, 1);
+        private int[] variable(int name) {
+            single[0] = VARIABLE | name << NAME_SHIFT;
+            return single;
         }
 
         /** The nodes from .. to - 1 with the terms told for the first bound names; null when that is too large. */
@@ -2672,7 +2666,8 @@ public final class ProofServer {
 
     /** Prints formulas and answers; what is still to be printed waits on a stack, the next one on top. */
     private static final class Printer {
-        // An item is a sign, a name (with more ' behind it) or a node (with its level, and whether it is at the right end).
+        // An item is a sign, a name (with more ' behind it), or a node: with its level, whether it stands
+        // at the right end of all or of what ( ) hold, and whether it is to be held in ( ).
         private static final int TYPE = 3;
         private static final int SIGN = 0;
         private static final int NAME = 1;
@@ -2681,18 +2676,12 @@ public final class ProofServer {
         private static final int MORE_SHIFT = 17;
         private static final int NODE_MASK = 255;
         private static final int RIGHT_END = 256;
-        private static final int LEVEL_SHIFT = 11;
-        private static final int LEVEL_MASK = 31;
-        private static final int CLOSE = 0;
-        private static final int OPENING = 1;
-        private static final int COMMA = 2;
-        private static final int EQUAL = 3;
-        private static final int ARROW = 4;
-        private static final int PLUS = 5;
-        private static final int STAR = 6;
-        private static final int FOR_ALL = 7;
-        private static final int THERE_IS = 8;
-        private static final int FALSITY = 9;
+        private static final int HELD = 512;
+        private static final int LEVEL_SHIFT = 10;
+        // Signs beside those that are told by the kind of their node.
+        private static final int CLOSING = 16;
+        private static final int OPENING = 17;
+        private static final int COMMA = 18;
         // Each node makes eight items at most.
         private static final int ITEMS_MOST = 10 * NODES_MOST;
 
@@ -2716,38 +2705,35 @@ public final class ProofServer {
             to.text("{\"proof\":\"");
             names.write(s.lemma, 0, to);
             to.text("\",\"goals\":[");
-            for (int i = 0; i < s.goals.length; i++) {
-                to.text(i > 0 ? ",\"" : "\"");
-                goal(s.goals[i], to);
+            for (int g = 0; g < s.goals.length; g++) {
+                Goal goal = s.goals[g];
+                to.text(g > 0 ? ",\"" : "\"");
+                for (int i = 0; i < goal.variables.length; i++) {
+                    names.write(goal.variables[i], 0, to);
+                    to.put(' ');
+                }
+                for (int i = 0; i < goal.names.length && i < goal.hypotheses.length; i++) {
+                    names.write(goal.names[i], 0, to);
+                    to.text(" : ");
+                    formula(goal.hypotheses[i], to);
+                    to.text(", ");
+                }
+                to.text("|- ");
+                formula(goal.formula, to);
                 to.put('"');
             }
             to.text("]}");
-        }
-
-        private void goal(Goal goal, Bytes to) {
-            for (int i = 0; i < goal.variables.length; i++) {
-                names.write(goal.variables[i], 0, to);
-                to.put(' ');
-            }
-            for (int i = 0; i < goal.names.length && i < goal.hypotheses.length; i++) {
-                names.write(goal.names[i], 0, to);
-                to.text(" : ");
-                formula(goal.hypotheses[i], to);
-                to.text(", ");
-            }
-            to.text("|- ");
-            formula(goal.formula, to);
         }
 
         /** What proof/statement answers of a name in a state. */
         void statement(State s, int name, Bytes to) {
             int fact = State.find(s.factNames, name);
             int symbol = s.symbolOf(name);
-            if (name >= 0 && fact >= 0) {
+            if (fact >= 0) {
                 to.put('"');
                 formula(s.facts[fact], to);
                 to.put('"');
-            } else if (name >= 0 && symbol >= 0) {
+            } else if (symbol >= 0) {
                 to.number(symbol >> TERMS_SHIFT & TERMS_MASK);
             } else {
                 to.text("null");
@@ -2759,31 +2745,42 @@ public final class ProofServer {
             push(NODE, RIGHT_END);
             for (int i = 0; i < ITEMS_MOST && height > 0; i++) {
                 height--;
+                int type = stack[height] & TYPE;
                 int item = stack[height] >> ITEM_SHIFT;
-                switch (stack[height] & TYPE) {
-                    case SIGN:
-                        to.text(signText(item));
-                        break;
-                    case NAME:
-                        names.write(item & (1 << MORE_SHIFT) - 1, item >> MORE_SHIFT, to);
-                        break;
-                    default:
-                        expand(formula, item);
+                int node = item & NODE_MASK;
+                int kind = type == NODE && node < formula.length ? formula[node] & KIND : FALSE;
+                boolean isQuantified = kind == FORALL || kind == EXISTS;
+                if (type == SIGN) {
+                    to.text(signText(item));
+                } else if (type == NAME) {
+                    names.write(item & (1 << MORE_SHIFT) - 1, item >> MORE_SHIFT, to);
+                } else if ((item & HELD) != 0 || isQuantified && (item & RIGHT_END) == 0) {
+                    push(SIGN, CLOSING);
+                    push(NODE, item & ~HELD | RIGHT_END);
+                    push(SIGN, OPENING);
+                } else if (isQuantified) {
+                    pushQuantified(formula, node, item >> LEVEL_SHIFT);
+                } else if (kind >= IMPLIES && kind <= EQUALS) {
+                    pushJoined(formula, node, item - node);
+                } else if (kind == FALSE) {
+                    push(SIGN, FALSE);
+                } else {
+                    pushTerm(formula, node);
                 }
             }
         }
 
         private static String signText(int sign) {
             switch (sign) {
-                case CLOSE: return ")";
+                case IMPLIES: return " -> ";
+                case AND: return " * ";
+                case OR: return " + ";
+                case EQUALS: return " = ";
+                case FORALL: return "forall ";
+                case EXISTS: return "exists ";
+                case CLOSING: return ")";
                 case OPENING: return "(";
                 case COMMA: return ", ";
-                case EQUAL: return " = ";
-                case ARROW: return " -> ";
-                case PLUS: return " + ";
-                case STAR: return " * ";
-                case FOR_ALL: return "forall ";
-                case THERE_IS: return "exists ";
                 default: return "False";
             }
         }
@@ -2795,84 +2792,60 @@ public final class ProofServer {
             }
         }
 
-        /** Puts what a node is printed as on the stack, the last of it first. */
-        private void expand(int[] formula, int item) {
-            int node = item & NODE_MASK;
-            if (node >= formula.length) {
-                return;
-            }
-            switch (formula[node] & KIND) {
-                case FALSE:
-                    push(SIGN, FALSITY);
-                    break;
-                case IMPLIES:
-                    pushJoined(formula, item, ARROW);
-                    break;
-                case OR:
-                    pushJoined(formula, item, PLUS);
-                    break;
-                case AND:
-                    pushJoined(formula, item, STAR);
-                    break;
-                case EQUALS:
-                    pushJoined(formula, item, EQUAL);
-                    break;
-                case FORALL: case EXISTS:
-                    pushQuantified(formula, item);
-                    break;
-                default:
-                    pushTerm(formula, item);
-            }
-        }
-
-        private void pushJoined(int[] formula, int item, int sign) {
-            int left = (item & NODE_MASK) + 1;
+        private void pushJoined(int[] formula, int node, int flags) {
+            int left = node + 1;
             int right = endOf(formula, left, formula.length);
             if (right >= formula.length) {
                 return;
             }
-            int kind = formula[right] & KIND;
-            boolean isHeld = sign == PLUS && kind == IMPLIES || sign == STAR && (kind == IMPLIES || kind == OR);
-            pushSide(item - (item & NODE_MASK) + right, isHeld);
-            push(SIGN, sign);
-            kind = formula[left] & KIND;
-            isHeld = sign != EQUAL && kind == IMPLIES || kind == OR && (sign == PLUS || sign == STAR) || kind == AND && sign == STAR;
-            pushSide((item - (item & NODE_MASK) & ~RIGHT_END) + left, isHeld);
+            int kind = formula[node] & KIND;
+            int leftKind = formula[left] & KIND;
+            int rightKind = formula[right] & KIND;
+            boolean isLeftHeld = leftKind == IMPLIES || leftKind == OR && kind != IMPLIES || leftKind == AND && kind == AND;
+            boolean isRightHeld = rightKind == IMPLIES && kind != IMPLIES || rightKind == OR && kind == AND;
+            push(NODE, right | flags | (isRightHeld ? HELD : 0));
+            push(SIGN, kind);
+            push(NODE, left | flags & ~RIGHT_END | (isLeftHeld ? HELD : 0));
         }
 
-        private void pushSide(int item, boolean isHeld) {
-            if (isHeld) {
-                push(SIGN, CLOSE);
-            }
-            push(NODE, isHeld ? item | RIGHT_END : item);
-            if (isHeld) {
-                push(SIGN, OPENING);
-            }
-        }
-
-        private void pushQuantified(int[] formula, int item) {
-            int node = item & NODE_MASK;
-            int level = item >> LEVEL_SHIFT & LEVEL_MASK;
+        private void pushQuantified(int[] formula, int node, int level) {
             if (level >= boundNames.length) {
                 return;
             }
-            boolean isHeld = (item & RIGHT_END) == 0;
+            int end = endOf(formula, node, formula.length);
             boundNames[level] = formula[node] >> NAME_SHIFT;
-            boundMore[level] = primesFor(formula, node, level);
-            if (isHeld) {
-                push(SIGN, CLOSE);
+            boundMore[level] = 0;
+            for (int i = 0; i < 2 * NODES_MOST && isWrittenIn(formula, node + 1, end, level); i++) {
+                boundMore[level]++;
             }
             push(NODE, node + 1 | RIGHT_END | level + 1 << LEVEL_SHIFT);
             push(SIGN, COMMA);
             push(NAME, boundNames[level] | boundMore[level] << MORE_SHIFT);
-            push(SIGN, (formula[node] & KIND) == FORALL ? FOR_ALL : THERE_IS);
-            if (isHeld) {
-                push(SIGN, OPENING);
-            }
+            push(SIGN, formula[node] & KIND);
         }
 
-        private void pushTerm(int[] formula, int item) {
-            int node = item & NODE_MASK;
+        /** Whether something else in the nodes from .. to - 1 is written as the bound name of the level is now. */
+        private boolean isWrittenIn(int[] formula, int from, int to, int level) {
+            int own = boundNames[level];
+            for (int i = from; i < to && i < formula.length && own < names.count; i++) {
+                int kind = formula[i] & KIND;
+                int name = formula[i] >> NAME_SHIFT;
+                int more = 0;
+                boolean isName = kind == PREDICATE || kind == FUNCTION || kind == VARIABLE;
+                if (kind == BOUND && name < level) {
+                    isName = true;
+                    more = boundMore[name];
+                    name = boundNames[name];
+                }
+                if (isName && name < names.count && names.stems[name] == names.stems[own]
+                        && names.primes[name] + more == names.primes[own] + boundMore[level]) {
+                    return true;
+                }
+            }
+            return false;
+        }
+
+        private void pushTerm(int[] formula, int node) {
             int name = formula[node] >> NAME_SHIFT;
             if ((formula[node] & KIND) == BOUND) {
                 if (name < boundNames.length) {
@@ -2882,9 +2855,9 @@ public final class ProofServer {
             }
             int count = formula[node] >> TERMS_SHIFT & TERMS_MASK;
             if (count > 0) {
-                push(SIGN, CLOSE);
+                push(SIGN, CLOSING);
             }
-            // The last term goes on the stack first, and a row tells only where the next one begins.
+            // The last term goes on the stack first, but a row tells only where the next one begins.
             for (int i = count; i > 0; i--) {
                 int at = node + 1;
                 for (int passed = 1; passed < i; passed++) {
@@ -2894,37 +2867,6 @@ public final class ProofServer {
                 push(SIGN, i > 1 ? COMMA : OPENING);
             }
             push(NAME, name);
-        }
-
-        /** How many ' more the name of a quantifier takes, so that nothing else in its formula is written like it. */
-        private int primesFor(int[] formula, int node, int level) {
-            int end = endOf(formula, node, formula.length);
-            for (int more = 0; more < 2 * NODES_MOST; more++) {
-                boundMore[level] = more;
-                boolean isFree = true;
-                for (int i = node + 1; i < end && isFree; i++) {
-                    isFree = !isWrittenLike(formula[i], level);
-                }
-                if (isFree) {
-                    return more;
-                }
-            }
-            return 0;
-        }
-
-        private boolean isWrittenLike(int node, int level) {
-            int kind = node & KIND;
-            int name = node >> NAME_SHIFT;
-            int more = 0;
-            if (kind == BOUND && name < level) {
-                more = boundMore[name];
-                name = boundNames[name];
-            } else if (kind != PREDICATE && kind != FUNCTION && kind != VARIABLE) {
-                return false;
-            }
-            int own = boundNames[level];
-            return name < names.count && own < names.count && names.stems[name] == names.stems[own]
-                    && names.primes[name] + more == names.primes[own] + boundMore[level];
         }
     }
 }
