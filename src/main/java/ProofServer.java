@@ -132,11 +132,11 @@ public final class ProofServer {
         if (tape.count > TAPE_MOST - FED_AT_ONCE) {
             return -1;
         }
-        lay(a);
-        lay(b);
-        lay(c);
-        lay(d);
-        lay(e);
+        putOnTape(a);
+        putOnTape(b);
+        putOnTape(c);
+        putOnTape(d);
+        putOnTape(e);
         return tape.count;
     }
 
@@ -285,7 +285,7 @@ public final class ProofServer {
         return i < 0 || i >= shown.count ? -1 : shown.row[i] & 255;
     }
 
-    private void lay(int four) {
+    private void putOnTape(int four) {
         for (int shift = 24; shift >= 0; shift -= 8) {
             tape.put(four >> shift);
         }
@@ -748,7 +748,7 @@ public final class ProofServer {
 
     private void remember(State behind) {
         int like = 0;
-        for (; like < cache.size() && !State.isSameRow(cache.get(like), behind); ) {
+        while (like < cache.size() && !State.isSameRow(cache.get(like), behind)) {
             like++;
         }
         if (like < cache.size()) {
@@ -769,6 +769,62 @@ public final class ProofServer {
                 hands[w] = null;
             }
         }
+    }
+
+    // ---- texts and formulas
+
+    private static boolean isBlank(int u) {
+        return u == ' ' || u == '\t' || u == '\n' || u == '\r';
+    }
+
+    private static boolean isDigit(int u) {
+        return u >= '0' && u <= '9';
+    }
+
+    private static boolean isLetter(int u) {
+        return u >= 'a' && u <= 'z' || u >= 'A' && u <= 'Z';
+    }
+
+    private static boolean opensComment(int[] text, int at, int end) {
+        return at >= 0 && at + 1 < end && end <= text.length && text[at] == '(' && text[at + 1] == '*';
+    }
+
+    /** The place behind the comment that begins at a place; -1 when none begins there, or it has no end. */
+    private static int commentEnd(int[] text, int from, int end) {
+        if (!opensComment(text, from, end)) {
+            return -1;
+        }
+        int depth = 1;
+        for (int at = from + 2; at + 1 < end; at++) {
+            if (text[at] == '(' && text[at + 1] == '*') {
+                depth++;
+                at++;
+            } else if (text[at] == '*' && text[at + 1] == ')') {
+                depth--;
+                at++;
+                if (depth == 0) {
+                    return at + 1;
+                }
+            }
+        }
+        return -1;
+    }
+
+    /** The place behind the formula or term that begins at a node. */
+    private static int endOf(int[] nodes, int from, int limit) {
+        int open = 1;
+        int at = from;
+        for (; at < limit && at < nodes.length && open > 0; at++) {
+            int kind = nodes[at] & KIND;
+            if (kind >= IMPLIES && kind <= EQUALS) {
+                open++;
+            } else if (kind == PREDICATE || kind == FUNCTION) {
+                open += (nodes[at] >> TERMS_SHIFT & TERMS_MASK) - 1;
+            } else if (kind != FORALL && kind != EXISTS) {
+                open--;
+            }
+        }
+        return at;
     }
 
     /** A row of bytes that grows as it is written. */
@@ -1137,8 +1193,8 @@ public final class ProofServer {
         }
 
         private void skipBlanks() {
-            for (; at < end && isBlank(peek()); at++) {
-                continue;
+            while (at < end && isBlank(peek())) {
+                at++;
             }
         }
 
@@ -1273,8 +1329,8 @@ public final class ProofServer {
 
         private int digits() {
             int from = at;
-            for (; at < end && isDigit(peek()); at++) {
-                continue;
+            while (at < end && isDigit(peek())) {
+                at++;
             }
             return at - from;
         }
@@ -1479,7 +1535,7 @@ public final class ProofServer {
         /** How many sentences end at the place or ahead of it. */
         int endedBy(int place) {
             int count = 0;
-            for (; count < sentences && ends[count] <= place; ) {
+            while (count < sentences && ends[count] <= place) {
                 count++;
             }
             return count;
@@ -1571,7 +1627,7 @@ public final class ProofServer {
         /** Keeps what was checked and is as it was: whether the check that goes on stays. */
         boolean keepChecked() {
             int kept = 0;
-            for (; kept < checked && behind[kept] != null && isSentence(kept, behind[kept].units); ) {
+            while (kept < checked && behind[kept] != null && isSentence(kept, behind[kept].units)) {
                 kept++;
             }
             boolean stays = kept == checked && checking != null && isSentence(kept, checking);
@@ -1595,7 +1651,7 @@ public final class ProofServer {
                 return -1;
             }
             int from = at;
-            for (; at < length && at - from < character && text[at] != '\n' && text[at] != '\r'; ) {
+            while (at < length && at - from < character && text[at] != '\n' && text[at] != '\r') {
                 at++;
             }
             return at;
@@ -1621,60 +1677,6 @@ public final class ProofServer {
                 }
             }
         }
-    }
-
-    private static boolean isBlank(int u) {
-        return u == ' ' || u == '\t' || u == '\n' || u == '\r';
-    }
-
-    private static boolean isDigit(int u) {
-        return u >= '0' && u <= '9';
-    }
-
-    private static boolean isLetter(int u) {
-        return u >= 'a' && u <= 'z' || u >= 'A' && u <= 'Z';
-    }
-
-    private static boolean opensComment(int[] text, int at, int end) {
-        return at >= 0 && at + 1 < end && end <= text.length && text[at] == '(' && text[at + 1] == '*';
-    }
-
-    /** The place behind the comment that begins at a place; -1 when none begins there, or it has no end. */
-    private static int commentEnd(int[] text, int from, int end) {
-        if (!opensComment(text, from, end)) {
-            return -1;
-        }
-        int depth = 1;
-        for (int at = from + 2; at + 1 < end; at++) {
-            if (text[at] == '(' && text[at + 1] == '*') {
-                depth++;
-                at++;
-            } else if (text[at] == '*' && text[at + 1] == ')') {
-                depth--;
-                at++;
-                if (depth == 0) {
-                    return at + 1;
-                }
-            }
-        }
-        return -1;
-    }
-
-    /** The place behind the formula or term that begins at a node. */
-    private static int endOf(int[] nodes, int from, int limit) {
-        int open = 1;
-        int at = from;
-        for (; at < limit && at < nodes.length && open > 0; at++) {
-            int kind = nodes[at] & KIND;
-            if (kind >= IMPLIES && kind <= EQUALS) {
-                open++;
-            } else if (kind == PREDICATE || kind == FUNCTION) {
-                open += (nodes[at] >> TERMS_SHIFT & TERMS_MASK) - 1;
-            } else if (kind != FORALL && kind != EXISTS) {
-                open--;
-            }
-        }
-        return at;
     }
 
     /** All names that were read, by number; a name is a stem and the ' at its end, so that printing can lengthen it. */
@@ -1710,7 +1712,7 @@ public final class ProofServer {
                 return -1;
             }
             int last = to;
-            for (; last > from && units[last - 1] == '\''; ) {
+            while (last > from && units[last - 1] == '\'') {
                 last--;
             }
             long stem = 1;
@@ -1827,7 +1829,7 @@ public final class ProofServer {
 
         private int scanName(int[] text, int from, int stop) {
             int end = from + 1;
-            for (; end < stop && Names.signOf(text[end]) >= 0; ) {
+            while (end < stop && Names.signOf(text[end]) >= 0) {
                 end++;
             }
             if (end - from <= NAME_MOST) {
@@ -2317,7 +2319,7 @@ public final class ProofServer {
             int[] nodes = syntax.nodes;
             int depth = 0;
             for (int i = 0; i < syntax.nodeCount && i < nodes.length; i++) {
-                for (; depth > 0 && scopeEnds[depth - 1] <= i; ) {
+                while (depth > 0 && scopeEnds[depth - 1] <= i) {
                     depth--;
                 }
                 int kind = nodes[i] & KIND;
@@ -2369,11 +2371,12 @@ public final class ProofServer {
                     int premises = rule == null ? -1 : premisesFor(rule, shown);
                     return premises < 0 ? NO_MATCH : addPremises(goal, rule, premises);
                 case WORD_SPLIT:
-                    return side(goal, kind == AND, 1, middle) + side(goal, kind == AND, middle, shown.length) > 0 ? NO_MATCH : 0;
+                    int fault = addSide(goal, kind == AND, 1, middle);
+                    return fault > 0 ? fault : addSide(goal, true, middle, shown.length);
                 case WORD_LEFT:
-                    return side(goal, kind == OR, 1, middle);
+                    return addSide(goal, kind == OR, 1, middle);
                 case WORD_RIGHT:
-                    return side(goal, kind == OR, middle, shown.length);
+                    return addSide(goal, kind == OR, middle, shown.length);
                 case WORD_CASES:
                     return cases(goal);
                 case WORD_ABSURD:
@@ -2401,13 +2404,13 @@ public final class ProofServer {
             return kind == FORALL ? add(goal.withVariable(name, opened(shown, variable(name), 1))) : NO_MATCH;
         }
 
-        private int side(Goal goal, boolean hasSides, int from, int to) {
+        private int addSide(Goal goal, boolean hasSides, int from, int to) {
             return hasSides ? add(goal.withFormula(part(goal.formula, from, to))) : NO_MATCH;
         }
 
         private static int leadingBound(int[] rule) {
             int bound = 0;
-            for (; bound < rule.length && bound < NESTING_MOST && (rule[bound] & KIND) == FORALL; ) {
+            while (bound < rule.length && bound < NESTING_MOST && (rule[bound] & KIND) == FORALL) {
                 bound++;
             }
             return bound;
