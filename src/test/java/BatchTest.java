@@ -48,6 +48,9 @@ public final class BatchTest {
         Client client = new Client();
         client.batch(Client.joined(Client.bytes("qe"), Client.bytes(0xC3)));
         Client.due("a cut one at the end", client.server.verdict(0, 1), 3);
+        client.feed(Client.bytes("\ud83d\ude00"));
+        Client.due("only the first bytes are the text", client.server.batch(3), 1);
+        Client.due("its units", client.server.verdict(0, 1), 3);
     }
 
     private static void lengths() {

@@ -93,6 +93,8 @@ public final class DocumentsTest {
         dueChanged("abc", "X", Client.edit(0, 0, 0, 100, "X"));
         dueChanged("abc", "abcX", Client.edit(0, 9, 0, 5, "X"));
         dueChanged("abc", "12c", Client.edit(0, 0, 0, 1, "1"), Client.edit(0, 1, 0, 2, "2"));
+        Client shorter = new Client().initialized().open("a", 1, "(* b *)").change("a", 2, Client.edit(0, 6, 0, 7, ""));
+        Client.due("what the text had behind its end is gone", shorter.server.document(0, 2), 1);
         dueChanged("abc", "y2", Client.whole("y"), Client.edit(0, 1, 0, 1, "2"));
         dueChanged("a", "12345678", Client.whole("1"), Client.edit(0, 1, 0, 1, "2"), Client.edit(0, 2, 0, 2, "3"), Client.edit(0, 3, 0, 3, "4"),
                 Client.edit(0, 4, 0, 4, "5"), Client.edit(0, 5, 0, 5, "6"), Client.edit(0, 6, 0, 6, "7"), Client.edit(0, 7, 0, 7, "8"));
@@ -159,6 +161,11 @@ public final class DocumentsTest {
         Client.due("units", x.document(0, 1), 4);
         Client.due("high", x.unit(0, 1), 0xD83D);
         Client.due("low", x.unit(0, 2), 0xDE00);
+        client.open("b", 1, "").notify("textDocument/didChange",
+                "{\"textDocument\":{\"uri\":\"b\",\"version\":2},\"contentChanges\":[{\"text\":\"\u20ac\ud83d\ude00\\u20AC\"}]}");
+        Client.due("units as they are", textOf(x, 1), "\u20ac\ud83d\ude00\u20ac");
+        client.close("b");
+        x.take();
         client.change("\ud83d\ude00", 2, Client.edit(0, 2, 0, 3, "\u00e9"));
         Client.due("half a pair", x.unit(0, 1), 0xD83D);
         Client.due("behind it", x.unit(0, 2), 0xE9);

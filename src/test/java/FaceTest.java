@@ -55,11 +55,13 @@ public final class FaceTest {
                 }
             }
         }
+        client.batch("qed.");
+        Client.due("verdict(0, 6)", x.verdict(0, 6), -1);
+        Client.due("verdict(0, -1)", x.verdict(0, -1), -1);
         Client.due("state(-1)", x.state(-1), -1);
         Client.due("state(13)", x.state(13), -1);
         Client.due("document(0, 4)", x.document(0, 4), -1);
         Client.due("sentence(0, 0, 5)", x.sentence(0, 0, 5), -1);
-        Client.due("verdict(0, 6)", x.verdict(0, 6), -1);
     }
 
     private static void face() {

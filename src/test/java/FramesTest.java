@@ -28,7 +28,7 @@ public final class FramesTest {
         dueWhole("Content-Length: 2\r\n\r\n");
         dueWhole("content-length:2\r\n\r\n");
         dueWhole("CONTENT-LENGTH:      0002\r\n\r\n");
-        dueWhole("X:\r\nContent-Length: 2\r\nY-z:  a~!b  \r\n\r\n");
+        dueWhole("Zz-Aa:\r\nContent-Length: 2\r\nY-z:  a~!b  \r\n\r\n");
         dueWhole("Content-Length: 9\r\nContent-Length: 2\r\n\r\n");
         dueWhole("Content-Lengths: x\r\nContent-Lengt: y\r\nContent-Length: 2\r\n\r\n");
         String line = "Content-Length: 2\r\n";

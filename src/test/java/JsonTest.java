@@ -25,7 +25,8 @@ public final class JsonTest {
     private static void texts() {
         String[] fine = {"1", "-0", "0.5", "1e400", "1E+2", "1.25e-3", "-1.0", "99999999999999999999", "true", "false", "null",
             "\"\"", " \t\r\n[ ] ", "[1,2 , 3]", "{}", "{ \"a\" : 1 , \"a\":{}}", "\"\\\"\\\\\\/\\b\\f\\n\\r\\t\\u00e9\\uD83D\\uDE00\"",
-            "\"\u007f\u00e9\u20ac\ud83d\ude00\"", "[[[[[[[[[[1]]]]]]]]]]", "[{\"a\":[{}]},[[]]]"};
+            "\"\u007f\u00e9\u20ac\ud83d\ude00\"", "[[[[[[[[[[1]]]]]]]]]]", "[{\"a\":[{}]},[[]]]", "[" + Client.repeat("1,", 1498) + "1]",
+            "{" + Client.repeat("\"\":1,", 598) + "\"\":1}", "\"\\uABCD\\uabcd\\uEFef\"", "\"" + Client.repeat("a", 2998) + "\""};
         for (String text : fine) {
             dueJson(text);
         }
@@ -106,6 +107,10 @@ public final class JsonTest {
         dueId("\"12345678901234567890\"", "\"12345678901234567890\"");
         dueId("\"\\u0022\\\\\\/\\n\\u001f\\u007f\"", "\"\\\"\\\\/\\u000a\\u001f\u007f\"");
         dueId("\"\\u00e9\\u20ac\\ud83d\\ude00\"", "\"\u00e9\u20ac\ud83d\ude00\"");
+        dueId("\"\\u007f\\u0080\\u07ff\\u0800\\uffff\"", "\"\u007f\u0080\u07ff\u0800\uffff\"");
+        dueId("\"\\ud800\\udc00\\udbff\\udfff\\uFACE\"", "\"\ud800\udc00\udbff\udfff\uface\"");
+        dueId("\"\u007f\u0080\u07ff\u0800\uffff\"", "\"\u007f\u0080\u07ff\u0800\uffff\"");
+        dueId("\"\ud800\udc00\udbff\udfff\"", "\"\ud800\udc00\udbff\udfff\"");
         String[] none = {"null", "true", "1.0", "1e0", "2147483648", "-2147483649", "[]", "{}", "\"123456789012345678901\"",
             "\"1234567890123456789\\ud83d\\ude00\""};
         for (String id : none) {

@@ -57,6 +57,9 @@ public final class PrintTest {
         due("~forall x,~exists y,R(x,y)", "(forall x, (exists y, R(x, y)) -> False) -> False");
         due("(forall x,A->exists y,R(x,y))*B", "(forall x, A -> exists y, R(x, y)) * B");
         due("forall x,exists y,R(x,y)", "forall x, exists y, R(x, y)");
+        due("(forall x,A)*forall y,Q(y)", "(forall x, A) * forall y, Q(y)");
+        due("(forall x,exists z,R(x,z))+exists y,Q(y)", "(forall x, exists z, R(x, z)) + exists y, Q(y)");
+        due(Client.repeat("forall x,", 11) + "exists y,y=y", Client.repeat("forall x, ", 11) + "exists y, y = y");
     }
 
     private static void boundNames() {

@@ -58,6 +58,10 @@ public final class TacticsTest {
         due("axiom a : forall x, exists y, R(y, g(x, y)) -> Q(x). lemma l : exists z, R(z, g(f(c), z)) -> Q(f(c)). apply a.", "0 0 0");
         due("axiom a : forall x, Q(x) -> forall x, R(x, x). lemma l : forall z, R(z, z). apply a.", "0 0 8", "|- forall z, R(z, z)");
         due("axiom a : ~A. lemma l : False. apply a.", "0 0 0", "|- A");
+        due("axiom a : forall a, forall b, forall d, forall e, forall h, forall i, forall j, forall k, forall m, forall n, forall o, forall p, "
+                + "b = a -> e = d -> i = h -> k = j -> n = m -> p = p -> a = b * d = e * h = i * j = k * m = n * o = p. "
+                + "lemma l : c = f(c) * c = c * f(c) = c * c = f(f(c)) * f(c) = f(c) * f(f(c)) = g(c, c). apply a.", "0 0 0",
+                "|- f(c) = c", "|- c = c", "|- c = f(c)", "|- f(f(c)) = c", "|- f(c) = f(c)", "|- g(c, c) = g(c, c)");
         due("axiom a : forall x, Q(x). lemma l : forall x, Q(x). apply a.", "0 0 8", "|- forall x, Q(x)");
         due("axiom a : forall x, x = f(x) -> A. lemma l : c = f(c) -> A. apply a.", "0 0 0");
         due("axiom a : forall x, Q(x) -> Q(f(x)). lemma l : A -> forall z, Q(z) -> Q(f(z)). intro h. intro y. intro k. apply a.",

@@ -8,6 +8,7 @@ public final class TapeTest {
         feed();
         give();
         output();
+        fullOutput();
         Client.end();
     }
 
@@ -66,5 +67,19 @@ public final class TapeTest {
         client.give(Client.framed(Client.bytes("{\"jsonrpc\":\"2.0\",\"method\":\"exit\"}")));
         client.give(ASKED);
         Client.due("of a broken server none is lost", x.state(8), 2);
+    }
+
+    /** The output may have 20,000 bytes, but not one more. */
+    private static void fullOutput() {
+        for (int over = 0; over <= 1; over++) {
+            Client client = new Client();
+            for (int i = 0; i < 199; i++) {
+                client.say("{\"id\":\"sixabc\"}");
+            }
+            Client.due("answers of 100 bytes", client.server.state(10), 19900);
+            client.say(over == 0 ? "{\"id\":\"sixabc\"}" : "{\"id\":\"sevenab\"}");
+            Client.due("output with " + over + " over", client.server.state(10), over == 0 ? 20000 : 19900);
+            Client.due("lost with " + over + " over", client.server.state(8), over);
+        }
     }
 }
