@@ -11,7 +11,7 @@ public final class BatchTest {
 
     private static void tape() {
         Client client = new Client();
-        ProofServer x = client.server;
+        Server x = client.server;
         client.feed(Client.bytes("qed. abort. left."));
         Client.due("batch(-1)", x.batch(-1), -1);
         Client.due("batch(21)", x.batch(21), -1);
@@ -60,8 +60,11 @@ public final class BatchTest {
         Client.due("the tape is empty", client.server.state(9), 0);
         Client.due("the batch before stays", client.server.verdict(0, 1), 4);
         Client.due("its goals too", client.goals(0), "null");
+        client = new Client();
         Client.due("1,500 units of two bytes", client.batch(Client.repeat("\u00e9", 1500)), 1);
         Client.due("1,500 units of pairs", client.batch(Client.repeat("\ud83d\ude00", 750)), 1);
+        client = new Client();
+        client.batch(Client.repeat("a", 1500));
         Client.due("1,502 units of pairs", client.batch(Client.repeat("\ud83d\ude00", 751)), -2);
         Client.due("1,501 units, the last one a pair", client.batch(Client.repeat("a", 1499) + "\ud83d\ude00"), -2);
         Client.due("the batch before stays", client.server.verdict(0, 1), 1500);
@@ -80,7 +83,7 @@ public final class BatchTest {
 
     private static void apart() {
         Client client = new Client().initialized().open("a", 1, "predicate P 0. axiom p : P.");
-        ProofServer x = client.server;
+        Server x = client.server;
         client.batch("predicate P 0. axiom p : P.");
         Client.due("no steps", x.state(6), 0);
         Client.due("no cache", x.state(5), 0);

@@ -1,12 +1,13 @@
 import java.nio.charset.StandardCharsets;
 import java.util.ArrayList;
+import java.util.Arrays;
 import java.util.List;
 
 /** What the tests share: a server with ways to talk to it, and the count of answers that were not due. */
 final class Client {
     private static int wrong = 0;
 
-    final ProofServer server = new ProofServer();
+    final Server server = new Server();
 
     /** Ends the test with exit code 1 if an answer was not the one that is due. */
     static void end() {
@@ -96,6 +97,18 @@ final class Client {
 
     Client say(byte[] body) {
         give(framed(body));
+        return this;
+    }
+
+    /** The same message so many times, as many at once as the tape holds. */
+    Client sayTimes(String json, int times) {
+        byte[] frame = framed(bytes(json));
+        int atOnce = 4000 / frame.length;
+        for (int said = 0; said < times; said += atOnce) {
+            byte[][] frames = new byte[Math.min(atOnce, times - said)][];
+            Arrays.fill(frames, frame);
+            give(joined(frames));
+        }
         return this;
     }
 
@@ -215,6 +228,24 @@ final class Client {
                 + ",\"character\":" + endCharacter + "}},\"severity\":1,\"message\":\"" + message + "\"}";
     }
 
+    /** The text of an open document. */
+    String text(int d) {
+        StringBuilder row = new StringBuilder();
+        for (int i = 0; server.unit(d, i) >= 0; i++) {
+            row.append((char) server.unit(d, i));
+        }
+        return row.toString();
+    }
+
+    /** One part of all sentences of an open document, with blanks between. */
+    String sentences(int d, int what) {
+        StringBuilder row = new StringBuilder();
+        for (int k = 0; server.sentence(d, k, 0) >= 0; k++) {
+            row.append(k > 0 ? " " : "").append(server.sentence(d, k, what));
+        }
+        return row.toString();
+    }
+
     int batch(String text) {
         return batch(bytes(text));
     }
@@ -241,17 +272,28 @@ final class Client {
         return row.toString();
     }
 
-    /** The faults of a batch. */
+    /** A server that has checked a text as its only document. */
+    static Client checked(String text) {
+        Client client = new Client().initialized().open("a", 1, text);
+        client.server.work(10000);
+        client.server.take();
+        return client;
+    }
+
+    /** The faults of a text, as a batch and as a document. */
     static void dueFaults(String text, String want) {
         Client client = new Client();
         client.batch(text);
         due("faults of " + text, client.verdicts(2), want);
+        due("faults of the document " + text, checked(text).sentences(0, 3), want);
     }
 
-    /** What proof/goals answers behind the last sentence of a batch. */
+    /** What proof/goals answers behind the last sentence of a text, as a batch and as a document. */
     static void dueGoals(String text, String want) {
         Client client = new Client();
         int count = client.batch(text);
         due("goals of " + text, client.goals(count - 1), want);
+        client = checked(text).askGoals("1", "a", 0, text.length());
+        client.dueAnswers("goals of the document " + text, result("1", want));
     }
 }

@@ -12,24 +12,16 @@ public final class DocumentsTest {
         Client.end();
     }
 
-    private static String textOf(ProofServer x, int d) {
-        StringBuilder row = new StringBuilder();
-        for (int i = 0; x.unit(d, i) >= 0; i++) {
-            row.append((char) x.unit(d, i));
-        }
-        return row.toString();
-    }
-
     private static void opening() {
         Client client = new Client().initialized();
-        ProofServer x = client.server;
+        Server x = client.server;
         client.open("a", 7, "x. y.").open("b", -2, "").open("a", 9, "z").open("c", 0, "(* *)").open("d", 1, "");
         Client.due("open", x.state(3), 3);
         Client.due("version of a", x.document(0, 0), 7);
         Client.due("units of a", x.document(0, 1), 5);
         Client.due("sentences of a", x.document(0, 2), 2);
         Client.due("checked of a", x.document(0, 3), 0);
-        Client.due("text of a", textOf(x, 0), "x. y.");
+        Client.due("text of a", client.text(0), "x. y.");
         Client.due("version of b", x.document(1, 0), -2);
         Client.due("units of b", x.document(1, 1), 0);
         Client.due("unit of b", x.unit(1, 0), -1);
@@ -59,7 +51,7 @@ public final class DocumentsTest {
 
     private static void closing() {
         Client client = new Client().initialized();
-        ProofServer x = client.server;
+        Server x = client.server;
         client.open("a", 1, "x.").open("b", 2, "y.").open("c", 3, "z.");
         x.work(1);
         Client.due("worker 1", x.state(12), 1);
@@ -67,7 +59,7 @@ public final class DocumentsTest {
         Client.due("open", x.state(3), 2);
         Client.due("worker 0", x.state(11), -1);
         Client.due("worker 1 has b still", x.state(12), 0);
-        Client.due("text of b", textOf(x, 0), "y.");
+        Client.due("text of b", client.text(0), "y.");
         client.dueAnswers("close", Client.diagnostics("a", 1));
         client.open("a", 5, "w.");
         Client.due("a is the last one now", x.document(2, 0), 5);
@@ -80,7 +72,7 @@ public final class DocumentsTest {
 
     private static void dueChanged(String text, String want, String... changes) {
         Client client = new Client().initialized().open("a", 1, text).change("a", 2, changes);
-        Client.due("text of " + text + " with " + String.join(",", changes), textOf(client.server, 0), want);
+        Client.due("text of " + text + " with " + String.join(",", changes), client.text(0), want);
         Client.due("version", client.server.document(0, 0), 2);
     }
 
@@ -114,7 +106,7 @@ public final class DocumentsTest {
 
     private static void dueIgnored(String text, String... changes) {
         Client client = new Client().initialized().open("a", 1, text).change("a", 2, changes);
-        Client.due("text of " + text + " with " + String.join(",", changes), textOf(client.server, 0), text);
+        Client.due("text of " + text + " with " + String.join(",", changes), client.text(0), text);
         Client.due("version", client.server.document(0, 0), 1);
     }
 
@@ -141,7 +133,7 @@ public final class DocumentsTest {
         client.notify("textDocument/didChange", "{\"textDocument\":{\"uri\":\"a\",\"version\":\"6\"},\"contentChanges\":[{\"text\":\"x\"}]}");
         client.notify("textDocument/didChange", "{\"textDocument\":{\"uri\":\"a\",\"version\":6},\"contentChanges\":{\"text\":\"x\"}}");
         client.notify("textDocument/didChange", "{\"textDocument\":{\"uri\":\"a\",\"version\":6}}");
-        Client.due("text", textOf(client.server, 0), "abc");
+        Client.due("text", client.text(0), "abc");
         Client.due("version", client.server.document(0, 0), 5);
     }
 
@@ -157,13 +149,13 @@ public final class DocumentsTest {
 
     private static void pairs() {
         Client client = new Client().initialized().open("\ud83d\ude00", 1, "a\ud83d\ude00b");
-        ProofServer x = client.server;
+        Server x = client.server;
         Client.due("units", x.document(0, 1), 4);
         Client.due("high", x.unit(0, 1), 0xD83D);
         Client.due("low", x.unit(0, 2), 0xDE00);
         client.open("b", 1, "").notify("textDocument/didChange",
                 "{\"textDocument\":{\"uri\":\"b\",\"version\":2},\"contentChanges\":[{\"text\":\"\u20ac\ud83d\ude00\\u20AC\"}]}");
-        Client.due("units as they are", textOf(x, 1), "\u20ac\ud83d\ude00\u20ac");
+        Client.due("units as they are", client.text(1), "\u20ac\ud83d\ude00\u20ac");
         client.close("b");
         x.take();
         client.change("\ud83d\ude00", 2, Client.edit(0, 2, 0, 3, "\u00e9"));

@@ -39,7 +39,7 @@ public final class FaceTest {
         Client client = new Client().initialized();
         client.open("a", 1, "predicate P 0. lemma l : P. qed.");
         client.batch("predicate P 0. lemma l : P. qed.");
-        ProofServer x = client.server;
+        Server x = client.server;
         for (int a : odd) {
             x.state(a);
             x.out(a);

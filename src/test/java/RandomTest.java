@@ -28,7 +28,7 @@ public final class RandomTest {
 
     private static void edits(Random random) {
         Client client = new Client().initialized().open("a", 1, text(random, 20)).open("b", 1, text(random, 8));
-        ProofServer x = client.server;
+        Server x = client.server;
         for (int turn = 2; turn < 20; turn++) {
             String uri = random.nextBoolean() ? "a" : "b";
             int from = random.nextInt(200);
@@ -42,16 +42,13 @@ public final class RandomTest {
         }
         x.work(10000);
         for (int d = 0; d < 2; d++) {
-            dueAsBatch(x, d);
+            dueAsBatch(client, d);
         }
     }
 
-    private static void dueAsBatch(ProofServer x, int d) {
-        StringBuilder units = new StringBuilder();
-        for (int i = 0; x.unit(d, i) >= 0; i++) {
-            units.append((char) x.unit(d, i));
-        }
-        String text = units.toString();
+    private static void dueAsBatch(Client client, int d) {
+        Server x = client.server;
+        String text = client.text(d);
         Client batch = new Client();
         Client.due("sentences of " + text, x.document(d, 2), batch.batch(text));
         Client.due("checked of " + text, x.document(d, 3), x.document(d, 2));
@@ -65,7 +62,7 @@ public final class RandomTest {
 
     private static void noise(Random random) {
         Client client = new Client().initialized().open("a", 1, text(random, 10));
-        ProofServer x = client.server;
+        Server x = client.server;
         for (int i = 0; i < 400; i++) {
             int n = random.nextInt(50) - 2;
             switch (random.nextInt(12)) {

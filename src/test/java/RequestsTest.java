@@ -45,7 +45,7 @@ public final class RequestsTest {
 
     private static void waiting() {
         Client client = new Client().initialized().open("a", 1, TEXT);
-        ProofServer x = client.server;
+        Server x = client.server;
         client.askGoals("1", "a", 2, 8).askGoals("2", "a", 0, 13).askStatement("3", "a", "l").askGoals("4", "a", 1, 18);
         client.dueAnswers("one need not wait", Client.result("2", "null"));
         Client.due("requests that wait", x.state(4), 3);

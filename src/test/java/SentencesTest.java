@@ -97,7 +97,7 @@ public final class SentencesTest {
 
     private static void ofDocuments() {
         Client client = new Client().initialized().open("a", 1, " qed. (* x *) abort");
-        ProofServer x = client.server;
+        Server x = client.server;
         int[] first = {1, 5, 0, -1, 5};
         int[] second = {14, 19, 0, -1, 4};
         for (int what = 0; what < 5; what++) {

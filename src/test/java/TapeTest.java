@@ -8,7 +8,6 @@ public final class TapeTest {
         feed();
         give();
         output();
-        fullOutput();
         Client.end();
     }
 
@@ -27,7 +26,7 @@ public final class TapeTest {
 
     private static void give() {
         Client client = new Client();
-        ProofServer x = client.server;
+        Server x = client.server;
         client.feed(Client.bytes(ASKED));
         Client.due("give(-1)", x.give(-1), -1);
         Client.due("give(61)", x.give(61), -1);
@@ -45,7 +44,7 @@ public final class TapeTest {
 
     private static void output() {
         Client client = new Client();
-        ProofServer x = client.server;
+        Server x = client.server;
         client.give(ASKED);
         Client.due("output", new String(client.output()), ANSWER);
         Client.due("out(-1)", x.out(-1), -1);
@@ -55,31 +54,5 @@ public final class TapeTest {
         Client.due("take() again", x.take(), 0);
         Client.due("out(0)", x.out(0), -1);
         Client.due("state(10)", x.state(10), 0);
-        int room = 20000 / ANSWER.length();
-        for (int i = 0; i < room; i++) {
-            client.give(ASKED);
-        }
-        Client.due("a full output", x.state(10), (long) room * ANSWER.length());
-        Client.due("nothing lost", x.state(8), 0);
-        client.give(ASKED + ASKED);
-        Client.due("state(10) stays", x.state(10), (long) room * ANSWER.length());
-        Client.due("two lost", x.state(8), 2);
-        client.give(Client.framed(Client.bytes("{\"jsonrpc\":\"2.0\",\"method\":\"exit\"}")));
-        client.give(ASKED);
-        Client.due("of a broken server none is lost", x.state(8), 2);
-    }
-
-    /** The output may have 20,000 bytes, but not one more. */
-    private static void fullOutput() {
-        for (int over = 0; over <= 1; over++) {
-            Client client = new Client();
-            for (int i = 0; i < 199; i++) {
-                client.say("{\"id\":\"sixabc\"}");
-            }
-            Client.due("answers of 100 bytes", client.server.state(10), 19900);
-            client.say(over == 0 ? "{\"id\":\"sixabc\"}" : "{\"id\":\"sevenab\"}");
-            Client.due("output with " + over + " over", client.server.state(10), over == 0 ? 20000 : 19900);
-            Client.due("lost with " + over + " over", client.server.state(8), over);
-        }
     }
 }

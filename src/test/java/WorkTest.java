@@ -15,7 +15,7 @@ public final class WorkTest {
 
     private static void limits() {
         Client client = new Client().initialized().open("a", 1, "qed. qed.");
-        ProofServer x = client.server;
+        Server x = client.server;
         Client.due("work(-1)", x.work(-1), -1);
         Client.due("work(10001)", x.work(10001), -1);
         Client.due("work(0)", x.work(0), 0);
@@ -31,7 +31,7 @@ public final class WorkTest {
 
     private static void twoWorkers() {
         Client client = new Client().initialized().open("a", 1, "qed. qed.").open("b", 1, "x").open("c", 1, "abort.");
-        ProofServer x = client.server;
+        Server x = client.server;
         Client.due("work(1)", x.work(1), 1);
         Client.due("worker 0", x.state(11), 0);
         Client.due("worker 1", x.state(12), 1);
@@ -50,7 +50,7 @@ public final class WorkTest {
 
     private static void justLeft() {
         Client client = new Client().initialized().open("a", 1, "qed. abort. qed.");
-        ProofServer x = client.server;
+        Server x = client.server;
         x.work(5);
         Client.due("worker 1 took the next one in the same step", x.state(12), 0);
         Client.due("worker 0 has none", x.state(11), -1);
@@ -59,7 +59,7 @@ public final class WorkTest {
 
     private static void asked() {
         Client client = new Client().initialized().open("a", 1, "qed. qed.").open("b", 1, "qed. qed.").open("c", 1, "qed. qed.");
-        ProofServer x = client.server;
+        Server x = client.server;
         client.askStatement("1", "c", "P");
         x.work(1);
         Client.due("worker 0 has what is asked about", x.state(11), 2);
@@ -74,7 +74,7 @@ public final class WorkTest {
 
     private static void staleChecks() {
         Client client = new Client().initialized().open("a", 1, "qed. abort.");
-        ProofServer x = client.server;
+        Server x = client.server;
         x.work(7);
         Client.due("one is checked", x.document(0, 3), 1);
         client.change("a", 2, Client.edit(0, 5, 0, 6, "A"));
@@ -95,7 +95,7 @@ public final class WorkTest {
 
     private static void keptChecks() {
         Client client = new Client().initialized().open("a", 1, "qed. abort. (* c *) x");
-        ProofServer x = client.server;
+        Server x = client.server;
         x.work(7);
         client.server.take();
         client.change("a", 2, Client.edit(0, 4, 0, 4, "\n(* more *)"));
@@ -118,7 +118,7 @@ public final class WorkTest {
 
     private static void cache() {
         Client client = new Client().initialized().open("a", 1, "predicate P 0. predicate Q 0. axiom p : P.");
-        ProofServer x = client.server;
+        Server x = client.server;
         Client.due("all", x.work(1000), 21);
         Client.due("checks in the cache", x.state(5), 3);
         Client.due("out of the cache", x.state(7), 0);
@@ -140,7 +140,7 @@ public final class WorkTest {
 
     private static void cacheIsShort() {
         Client client = new Client().initialized();
-        ProofServer x = client.server;
+        Server x = client.server;
         StringBuilder text = new StringBuilder();
         for (int i = 0; i < 23; i++) {
             text.append("x").append((char) ('a' + i)).append(". ");
