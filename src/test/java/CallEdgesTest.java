@@ -429,7 +429,10 @@ public final class CallEdgesTest {
         client.batch("");
         Client.due("ahead of all of nothing", client.goals(-1), "null");
         Client.due("goals(0, 0) of nothing", x.goals(0, 0), -1);
+        client.batch("x.");
+        Client.due("goals(0, 0) of a batch", x.goals(0, 0), 'n');
         client.batch("lemma m : False.");
+        Client.due("goals(0, 0) of the next batch", x.goals(0, 0), '{');
         Client.due("the latest one", client.goals(0), "{\"proof\":\"m\",\"goals\":[\"|- False\"]}");
         client.batch(Client.repeat(" ", 1501));
         Client.due("it stays", client.goals(0), "{\"proof\":\"m\",\"goals\":[\"|- False\"]}");

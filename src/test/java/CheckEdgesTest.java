@@ -418,6 +418,11 @@ public final class CheckEdgesTest {
         client.server.work(10000);
         client.dueAnswers("over lines", Client.diagnostics("a", Integer.MAX_VALUE, Client.diagnostic(3, 0, 4, 2, "taken"), Client.diagnostic(4, 3, 5, 2, "too large"),
                 Client.diagnostic(7, 0, 9, 0, "unfinished")));
+        client = new Client().initialized().open("a", 1, "x.\n\n y.");
+        client.server.work(1000);
+        client.change("a", 2, Client.edit(2, 3, 2, 3, " "));
+        client.dueAnswers("places are the same when they are told again", Client.diagnostics("a", 1, fault(0, 0, 2, "syntax"), fault(2, 1, 3, "syntax")),
+                Client.diagnostics("a", 2, fault(0, 0, 2, "syntax"), fault(2, 1, 3, "syntax")));
         client = new Client().initialized().open("a", Integer.MIN_VALUE, Client.repeat("qed.\n", 40) + "x.\n");
         client.server.work(10000);
         String[] want = new String[40];

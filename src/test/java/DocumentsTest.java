@@ -115,7 +115,6 @@ public final class DocumentsTest {
         dueIgnored("abc", "1");
         dueIgnored("abc", "{}");
         dueIgnored("abc", "{\"text\":1}");
-        dueIgnored("abc", "{\"text\":\"x\",\"range\":null}");
         dueIgnored("abc", "{\"text\":\"x\",\"range\":{\"start\":{\"line\":0,\"character\":0}}}");
         dueIgnored("abc", "{\"text\":\"x\",\"range\":{\"start\":{\"line\":0},\"end\":{\"line\":0,\"character\":0}}}");
         dueIgnored("abc", Client.edit(0, 2, 0, 1, "X"));

@@ -28,7 +28,6 @@ public final class FaceTest {
         Client.due("new: take()", x.take(), 0);
         Client.due("new: work(10)", x.work(10), 0);
         Client.due("new: verdict(0, 0)", x.verdict(0, 0), -1);
-        Client.due("new: goals(-1, 0)", x.goals(-1, 0), -1);
         Client.due("new: goals(0, 0)", x.goals(0, 0), -1);
         Client.due("new: give(0)", x.give(0), 0);
         Client.due("new: batch(0)", x.batch(0), 0);

@@ -22,6 +22,8 @@ public final class FrameEdgesTest {
         workOfABrokenServer();
         fullOutput();
         lostFrames();
+        lengthsOfFrames();
+        lostByWork();
         lostByABrokenServer();
         Client.end();
     }
@@ -222,22 +224,21 @@ public final class FrameEdgesTest {
         Client.due("messages", client.server.state(2), 1);
     }
 
-    private static String filled(int bytes) {
+    private static String headersOf(int bytes) {
         return "A:" + Client.repeat("v", bytes - 2 - 2 - LENGTH.length() - 2) + "\r\n" + LENGTH + "\r\n";
     }
 
     /** "the 201st byte of the headers of one frame" */
     private static void headerBytes() {
-        dueTaken(filled(199));
-        dueTaken(filled(200));
-        dueTaken(filled(200).replace("A:v", "A: "));
-        dueBroken(filled(201));
+        dueTaken(headersOf(199));
+        dueTaken(headersOf(200));
+        dueTaken(headersOf(200).replace("A:v", "A: "));
         dueBroken("A:" + Client.repeat("v", 199));
         dueBroken(Client.repeat("a", 201));
         dueBroken(Client.repeat("A:\r\n", 50) + "B");
         dueBroken("A:" + Client.repeat(" ", 199));
         Client client = new Client();
-        client.give(filled(200) + "{}" + filled(200) + "{}");
+        client.give(headersOf(200) + "{}" + headersOf(200) + "{}");
         Client.due("each frame has its own", client.server.state(2), 2);
         Client.due("broken", client.server.state(0), 0);
     }
@@ -295,23 +296,36 @@ public final class FrameEdgesTest {
         Client.due("documents stay", client.server.state(3), 2);
     }
 
-    /** Fills the output up to so many bytes: by answers with long ids, then by shorter ones. */
-    private static Client filledOutput(int bytes) {
-        Client client = new Client();
-        String id = Client.repeat("\\n", 20);
-        client.sayTimes("{\"id\":\"" + id + "\"}", 90);
-        int each = client.server.state(10) / 90;
-        Client.due("bytes of a long answer", each, 215);
-        // An answer whose id is a string of k letters has 94 and k bytes.
-        int rest = bytes - 90 * each;
-        while (rest > 114 + 94) {
-            client.say("{\"id\":\"" + Client.repeat("a", 20) + "\"}");
-            rest -= 114;
+    /** Asks for an answer of so many bytes, 94 to 190 (but not 122): the longer its id, the longer it is. */
+    private static void sayFor(Client client, int bytes) {
+        int id = bytes < 122 ? bytes - 94 : bytes - 95;
+        // A control sign is written in six bytes, and an id has at most 20 units.
+        int signs = Math.max(0, (id - 16) / 5);
+        client.say("{\"id\":\"" + Client.repeat("\\n", signs) + Client.repeat("a", id - 6 * signs) + "\"}");
+    }
+
+    /** Fills an empty output up to so many bytes. */
+    private static Client filled(Client client, int bytes) {
+        int rest = bytes;
+        int times = (rest - 190) / 215;
+        client.sayTimes("{\"id\":\"" + Client.repeat("\\n", 20) + "\"}", times);
+        Client.due("bytes of long answers", client.server.state(10), 215 * times);
+        rest -= 215 * times;
+        if (rest > 380) {
+            sayFor(client, 94);
+            rest -= 94;
         }
-        int first = Math.min(rest - 94, 114);
-        client.say("{\"id\":\"" + Client.repeat("a", first - 94) + "\"}");
-        client.say("{\"id\":\"" + Client.repeat("a", rest - first - 94) + "\"}");
+        int first = Math.min(rest - 94, 190);
+        if (first == 122 || rest - first == 122) {
+            first--;
+        }
+        sayFor(client, first);
+        sayFor(client, rest - first);
         return client;
+    }
+
+    private static Client filledOutput(int bytes) {
+        return filled(new Client(), bytes);
     }
 
     /** "what would make the output longer than 20,000 bytes is not written (all of that frame), and it is told as LOST" */
@@ -324,7 +338,6 @@ public final class FrameEdgesTest {
         client.say("{}");
         Client.due("output", client.server.state(10), 20000);
         Client.due("lost", client.server.state(8), 1);
-        Client.due("messages", client.server.state(2), 97);
         client = filledOutput(20001);
         Client.due("output without the frame that would make it 20,001", client.server.state(10) < 20000 ? 1 : 0, 1);
         Client.due("lost", client.server.state(8), 1);
@@ -347,6 +360,57 @@ public final class FrameEdgesTest {
         client.say("{}");
         client.dueAnswers("there is room again", NO_REQUEST);
         Client.due("lost", client.server.state(8), 4);
+    }
+
+    private static void dueLast(Client client, int frame, boolean isLost, Runnable last) {
+        int before = client.server.state(10);
+        last.run();
+        Client.due("output behind a frame of " + frame, client.server.state(10), isLost ? before : before + frame);
+        Client.due("lost of a frame of " + frame, client.server.state(8), isLost ? 1 : 0);
+    }
+
+    /** "the number of bytes": a frame is longer by one more when its number has a digit more. */
+    private static void lengthsOfFrames() {
+        for (int frame : new int[] {121, 123}) {
+            for (int over = 0; over <= 1; over++) {
+                Client client = filledOutput(20000 - frame + over);
+                dueLast(client, frame, over == 1, () -> sayFor(client, frame));
+            }
+        }
+        String[] faults = new String[8];
+        for (int k = 0; k < 8; k++) {
+            faults[k] = Client.diagnostic(0, 3 * k, 0, 3 * k + 2, "syntax");
+        }
+        for (int body = 999; body <= 1000; body++) {
+            String uri = Client.repeat("u", body - Client.diagnostics("", 2, faults).length());
+            int frame = body == 999 ? 999 + 23 : 1000 + 24;
+            for (int over = 0; over <= 1; over++) {
+                Client client = new Client().initialized().open(uri, 1, Client.repeat("x. ", 8));
+                client.server.work(1000);
+                client.server.take();
+                filled(client, 20000 - frame + over);
+                // All sentences are kept, so that the diagnostics come at once.
+                dueLast(client, frame, over == 1, () -> client.change(uri, 2, Client.edit(0, 99, 0, 99, " ")));
+            }
+        }
+    }
+
+    /** What comes by work is lost like what comes by give; a shorter frame behind it may have room. */
+    private static void lostByWork() {
+        Client client = new Client().initialized().open("a", 1, "x.");
+        client.askGoals("1", "a", 0, 2);
+        int answer = 22 + Client.result("1", "null").length();
+        filled(client, 20000 - answer);
+        client.server.work(1000);
+        Client.due("output with the answer alone", client.server.state(10), 20000);
+        Client.due("the diagnostics are lost", client.server.state(8), 1);
+        Client.due("checked", client.server.document(0, 3), 1);
+        Client.due("waiting", client.server.state(4), 0);
+        client.askGoals("2", "a", 0, 2).close("a");
+        Client.due("an answer and diagnostics more", client.server.state(8), 3);
+        client.server.take();
+        client.open("a", 1, "");
+        client.dueAnswers("there is room again", Client.diagnostics("a", 1));
     }
 
     /** "(of a BROKEN server none is)" */

@@ -150,6 +150,13 @@ public final class MethodEdgesTest {
             client.notify(method, "{}");
             client.dueAnswers("a notification " + method);
         }
+        client.open("a", 1, "x.").askGoals("1", "a", 0, 2);
+        for (String method : new String[] {"x", "/cancelRequest", "$/cancel", "$/cancelrequest", "textDocument/didSave", "textDocument/did"}) {
+            client.notify(method, "{\"id\":1,\"textDocument\":{\"uri\":\"a\",\"version\":2,\"text\":\"\"},\"contentChanges\":[{\"text\":\"\"}]}");
+            client.dueAnswers("a notification " + method);
+            Client.due("waiting", client.server.state(4), 1);
+            Client.due("version", client.server.document(0, 0), 1);
+        }
         Client.due("broken", client.server.state(0), 0);
     }
 
@@ -429,6 +436,9 @@ public final class MethodEdgesTest {
         // What a change puts beside the end of a line can make one end of two, or two of one.
         dueChange("a\nb", "a\r\nX", Client.edit(0, 1, 0, 1, "\r"), Client.edit(1, 0, 1, 9, "X"));
         dueChange("a\r\nb", "a\rz\nX", Client.edit(0, 1, 1, 0, "\rz\n"), Client.edit(2, 0, 2, 9, "X"));
+        // What a longer text had behind the end of this one is no part of it.
+        dueChange("a\r\nb", "a\rX", Client.whole("a\r"), Client.edit(1, 0, 1, 0, "X"));
+        dueNoChange("a\nb", Client.whole("a"), Client.edit(1, 0, 1, 0, "X"));
     }
 
     /** "a character beyond the line's units (without its end) is its end" */

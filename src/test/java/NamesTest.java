@@ -29,7 +29,6 @@ public final class NamesTest {
         due("axiom a : c = x.", "5");
         due("axiom a : (forall x, Q(x)) * Q(x).", "5");
         due("axiom a : forall x, Q(x(c)).", "5");
-        due("axiom a : forall f, Q(f(c)).", "5");
         due("axiom a : forall f, Q(f).", "0");
         due("axiom a : forall P, P * Q(P).", "0");
         due("axiom a : forall x, x.", "5");

@@ -11,6 +11,7 @@ public final class SentenceEdgesTest {
         commentsWithoutEnd();
         fortySentences();
         moreBehindTheLast();
+        behindTheLast();
         names();
         longNames();
         numbers();
@@ -51,6 +52,9 @@ public final class SentenceEdgesTest {
         dueParts("(*(**)*)a.", "8", "10", "3");
         dueParts("(*(**)a.*)b.", "10", "12", "3");
         dueParts("(*(*(**)a.*)b.*)c.", "16", "18", "3");
+        dueParts("(*(*)a.*)b.*)c.", "13", "15", "3");
+        dueParts("(*(*)*)", "0", "7", "1");
+        dueParts("(*(*)*)*)a.", "9", "11", "3");
         dueParts("(**)*)a.", "4", "8", "3");
         dueParts("(* ( * ) a. *)b.", "14", "16", "3");
         dueParts("( * a. *)", "0 7", "6 9", "3 1");
@@ -166,6 +170,26 @@ public final class SentenceEdgesTest {
         Client.due("fault", client.server.verdict(39, 2), 0);
     }
 
+    /** What comes of the 40th counts like what comes of any other one. */
+    private static void behindTheLast() {
+        String text = Client.repeat("x. ", 39) + "lemma l : False.";
+        String goals = "{\"proof\":\"l\",\"goals\":[\"|- False\"]}";
+        Client client = new Client();
+        client.batch(text);
+        Client.due("goals behind the 40th", client.goals(39), goals);
+        Client.due("goals behind the 39th", client.goals(38), "null");
+        Client.due("number of goals behind the 40th", client.server.verdict(39, 4), 1);
+        client = Client.checked(text).askGoals("1", "a", 0, text.length()).askGoals("2", "a", 0, text.length() - 1);
+        client.dueAnswers("goals of a document", Client.result("1", goals), Client.result("2", "null"));
+        client = Client.checked(Client.repeat("x. ", 39) + "axiom l : False.").askStatement("1", "a", "l");
+        client.dueAnswers("a statement of the 40th", Client.result("1", "\"False\""));
+        client = new Client().initialized().open("a", 1, text + " x.");
+        client.askGoals("1", "a", 0, text.length()).askGoals("2", "a", 0, text.length() + 3);
+        client.dueAnswers("the 40th ends at the end of the text");
+        client.server.work(10000);
+        Client.due("what is too much changes nothing", client.answers().get(2), Client.result("2", "null"));
+    }
+
     /** What a sentence costs is 3 and the number of its tokens. */
     private static void dueTokens(String sentence, int tokens) {
         Client client = new Client();
@@ -180,6 +204,10 @@ public final class SentenceEdgesTest {
     /** "NAMES (a letter, then letters, digits, _ and ' as long as they go on" */
     private static void names() {
         dueTokens("azAZ.", 2);
+        for (char sign : "azAZ".toCharArray()) {
+            dueTokens(sign + ".", 2);
+            dueTokens(sign + "_ " + sign + "9.", 3);
+        }
         dueTokens("a09_'Z.", 2);
         dueTokens("a''.", 2);
         dueTokens("a'b.", 2);
@@ -193,6 +221,15 @@ public final class SentenceEdgesTest {
             dueTokens("a" + other + "b.", 4);
         }
         Client.dueFaults("predicate a09_'Z 0. axiom x : a09_'Z. axiom y : a09_'z.", "0 0 5");
+        String signs = "abcdefghijklmnopqrstuvwxyzABCDEFGHIJKLMNOPQRSTUVWXYZ0123456789_'";
+        for (int i = 0; i < signs.length(); i++) {
+            for (String name : new String[] {"a" + signs.charAt(i), "a" + signs.charAt(i) + "b", "Z" + signs.charAt(i) + signs.charAt(i) + "'"}) {
+                String other = name.replace(signs.charAt(i), signs.charAt((i + 1) % signs.length()));
+                Client client = new Client();
+                client.batch("predicate " + other + " 0. lemma " + name + " : False.");
+                Client.due("names " + other + " " + name, client.goals(1), "{\"proof\":\"" + name + "\",\"goals\":[\"|- False\"]}");
+            }
+        }
     }
 
     /** "10 signs at most: a longer one is no token" */
@@ -250,6 +287,7 @@ public final class SentenceEdgesTest {
         dueTokens("&|<>/?;[]{}.", 12);
         Client.dueFaults("predicate P! 0. predicate P 0!. predicate P 0.", "3 3 0");
         Client.dueFaults("predicate P.a 0.", "3");
+        Client.dueFaults("predicate P 0. axiom a : P > P. axiom a : P - P. axiom a : P n P. axiom a : P & P. axiom a : P -> P.", "0 3 3 3 3 0");
     }
 
     /** "no name may be one of forall, exists, False where a name is told" */

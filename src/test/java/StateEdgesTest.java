@@ -421,6 +421,10 @@ public final class StateEdgesTest {
         Client.dueGoals(chain, goalsOf("l", "y |- forall y', forall y'', T(y, y', y'')"));
         Client.dueGoals(begin + "lemma l : forall y, exists x, forall y, Q(y) * forall y, R(x, y). intro y. give y. ",
                 goalsOf("l", "y |- forall y', Q(y') * forall y', R(y, y')"));
+        Client.dueGoals(begin + "lemma l : forall x, exists z, (forall x, R(z, x)) * (forall y, Q(y)) * forall x, R(x, z). intro x. give x.",
+                goalsOf("l", "x |- (forall x', R(x, x')) * (forall y, Q(y)) * forall x', R(x', x)"));
+        Client.dueGoals(begin + "lemma l : forall x, exists z, (forall x, R(z, x)) -> forall y, Q(y). intro x. give x. intro h.",
+                goalsOf("l", "x h : forall x', R(x, x'), |- forall y, Q(y)"));
         Client.dueGoals(begin + "lemma l : forall x, Q(x) * forall x, Q(x). ", goalsOf("l", "|- forall x, Q(x) * forall x, Q(x)"));
     }
 
