@@ -17,6 +17,7 @@ public final class StateEdgesTest {
         orderOfFaults();
         fromTheLeft();
         freeNames();
+        whatANameIs();
         withoutGoals();
         openGoals();
         leastPremises();
@@ -306,6 +307,24 @@ public final class StateEdgesTest {
         // Only the first goal's names are taken, and what a hypothesis was is free when it has gone.
         Client.dueFaults(begin + "lemma l : P * P -> P. intro h. cases h a b. have h : P. have a : P.", "0 0 0 0 0 0 0 0 6");
         Client.dueFaults(begin + "lemma l : P. have h : P -> P. intro a. exact a. exact a. have a : P.", "0 0 0 0 0 0 0 0 5 0");
+        Client.dueFaults(begin + "lemma l : P. have h : P -> P. intro h. exact h. intro h. have h : P.", "0 0 0 0 0 0 0 0 6 6");
+        Client.dueFaults(begin + "lemma l : P * forall x, P. split. have x : P. exact p. exact x. exact x. intro x.", "0 0 0 0 0 0 0 0 0 5 0");
+    }
+
+    /** "the name that a quantifier around it binds (the innermost one), else a variable of the first goal, else a function", "A term alone is a predicate" */
+    private static void whatANameIs() {
+        String begin = "predicate Q 1. predicate R 2. function c 0. lemma l : forall x, exists y, Q(y). intro x. ";
+        Client.dueGoals(begin + "have h : forall x, Q(x).", goalsOf("l", "x |- forall x, Q(x)", "x h : forall x, Q(x), |- exists y, Q(y)"));
+        Client.dueGoals(begin + "have h : Q(x) * forall x, R(x, x).", goalsOf("l", "x |- Q(x) * forall x, R(x, x)", "x h : Q(x) * forall x, R(x, x), |- exists y, Q(y)"));
+        Client.dueGoals(begin + "have h : forall c, R(x, c).", goalsOf("l", "x |- forall c, R(x, c)", "x h : forall c, R(x, c), |- exists y, Q(y)"));
+        Client.dueGoals(begin + "have h : (forall x, forall y, R(x, y)) -> forall y, R(x, y). intro k. exact k.", goalsOf("l",
+                "x k : forall x, forall y, R(x, y), |- forall y, R(x, y)", "x h : (forall x, forall y, R(x, y)) -> forall y, R(x, y), |- exists y, Q(y)"));
+        Client.dueFaults(begin + "have h : forall x, exists x, Q(x). intro u. give x. have k : Q(u). have m : Q(y).", "0 0 0 0 0 0 0 0 0 5");
+        String words = "predicate P 0. predicate Q 1. function c 0. ";
+        Client.dueFaults(words + "axiom a : forall P, P. axiom b : forall P, Q(P). axiom d : Q(P). axiom e : forall Q, Q(Q). axiom g : forall x, x. axiom h : c. axiom i : P = P.",
+                "0 0 0 0 0 5 0 5 5 5");
+        Client.dueFaults(words + "axiom a : c(c) = c. axiom b : Q. axiom d : P(c). axiom e : Q(c, c). axiom g : Q(d). axiom h : Q(h). axiom i : (forall x, P) * Q(x).",
+                "0 0 0 5 5 5 5 5 5 5");
     }
 
     /** "without one its variables and hypotheses are none, and it is 8" */
