@@ -77,7 +77,7 @@ public final class ProofServer {
     private static final int NAME_SHIFT = 15;
 
     // The words in the order of their numbers below: those up to lemma stand outside of proofs.
-    private static final String WORDS = 
+    private static final String WORDS =
             "forall exists False function predicate axiom lemma qed abort intro exact apply split left right cases absurd give use same rewrite have";
     private static final int WORD_FORALL = 0;
     private static final int WORD_EXISTS = 1;
@@ -2185,9 +2185,12 @@ public final class ProofServer {
                 return next;
             }
             syntax.scan(units, 0, units.length);
-            if (!syntax.isSentence()) {
+            boolean isRead = syntax.isSentence();
+            boolean isForProofs = syntax.word > WORD_LEMMA;
+            boolean isInProof = next.lemma >= 0;
+            if (!isRead) {
                 next.fault = SYNTAX;
-            } else if (syntax.word <= WORD_LEMMA == next.lemma >= 0) {
+            } else if (isForProofs != isInProof) {
                 next.fault = NOT_HERE;
             } else if (syntax.word <= WORD_PREDICATE) {
                 next.fault = declare(next);
